@@ -59,7 +59,7 @@ public final class RetoldRun {
     }
 
     public int add(int operation, int a, int b) {
-        if (begun || program.size >= MOST_INSTRUCTIONS || !isInstruction(operation, b)) {
+        if (begun || !isInstruction(operation, b)) {
             return -1;
         }
         return program.append(operation, a, b);
@@ -207,6 +207,7 @@ public final class RetoldRun {
             return place >= 0 && place < size;
         }
 
+        /** The number of the new instruction, or -1 if the row is full. */
         int append(int operation, int a, int b) {
             if (size >= MOST_INSTRUCTIONS) {
                 return -1;
@@ -219,7 +220,7 @@ public final class RetoldRun {
         }
     }
 
-    /** What a machine asks of the world beyond it; a step asks for one thing at most that is there. */
+    /** What a machine asks of the world beyond it, each time with the number of the step that asks. */
     private abstract static class Outside {
         abstract boolean takeInterrupt(int step);
 

@@ -99,6 +99,7 @@ public final class OperationsTest {
             Checks.due("without sign", x.state(0, 2) >= 0 && x.state(0, 2) < 65536, true);
             x.run(1);
         }
+        Checks.due("no output", x.state(0, 5), 0);
         Checks.dueLog("draws come from inside", x);
     }
 
@@ -142,6 +143,11 @@ public final class OperationsTest {
         x.run(1);
         Checks.due("the one that waited comes now", x.state(0, 4), 16);
         Checks.dueLog("two interrupts", x, 19, 15);
+        RetoldRun z = padded(6, 0, 19, 0, 0, 1, 12, 0, 0, 6, 0, 16, 5, 0, 3, 11, 0, 0);
+        z.request();
+        z.run(2);
+        Checks.due("ZERO inside", z.state(0, 4), 19);
+        Checks.due("stays inside", z.state(0, 7), 1);
         RetoldRun y = Checks.with(0, 11, 0, 0, 0, 0, 5);
         y.run(2);
         Checks.due("RETURN outside goes on", y.state(0, 0), 5);

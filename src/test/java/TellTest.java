@@ -5,6 +5,7 @@ public final class TellTest {
         refusedSeals();
         refusedChangesNothing();
         unreadable();
+        readableAgain();
         sealComesFirst();
         otherInputs();
         droppedBits();
@@ -18,6 +19,7 @@ public final class TellTest {
         toldEndsEarlier();
         toldEndsLater();
         cellsCount();
+        cellsAlone();
         tellingLeavesTheRun();
         Checks.finish(TellTest.class);
     }
@@ -134,6 +136,14 @@ public final class TellTest {
         Checks.due("a number of five bytes can be read", Checks.tellNow(x), 0);
         Checks.write(x, 7, 7, 7, 7, 5, 0);
         Checks.due("an entry with its value can be read", Checks.tellNow(x), 0);
+    }
+
+    private static void readableAgain() {
+        RetoldRun x = looped(2, 7);
+        x.change(0, 4);
+        Checks.due("not readable", Checks.tellNow(x), -2);
+        x.change(0, 5);
+        dueTold("readable again", x, 1, 0, 7);
     }
 
     private static void sealComesFirst() {
@@ -328,6 +338,40 @@ public final class TellTest {
         Checks.due("told anew", Checks.tellNow(x), 0);
         Checks.due("cells are 0 at first again", x.cell(1, 9), 0);
         Checks.due("the other cell", x.cell(1, 10), 10);
+    }
+
+    private static int traced(int trace, int place, int register) {
+        int h = ((trace ^ place) * 16777619 ^ register) * 16777619;
+        for (int i = 0; i < 4; i++) {
+            h *= 16777619;
+        }
+        return h;
+    }
+
+    /** The trace is brought together again by a second input, so that a cell alone tells the two runs apart. */
+    private static void cellsAlone() {
+        int first = 1;
+        int second = Integer.MIN_VALUE;
+        RetoldRun x = Checks.with(0, 7, 0, 0, 4, 0, 1, 7, 0, 0, 0, 0, 5);
+        x.input(first);
+        x.input(second);
+        x.run(4);
+        Checks.due("one byte and five", x.log(), 8);
+        int other = 2;
+        int mixed = (traced(traced(0, 1, first), 2, first) ^ 3) * 16777619;
+        int otherMixed = (traced(traced(0, 1, other), 2, other) ^ 3) * 16777619;
+        int otherSecond = second ^ mixed ^ otherMixed;
+        int number = otherSecond >= 0 ? 2 * otherSecond : -2 * otherSecond - 1;
+        x.change(1, 2 * other);
+        for (int i = 0; i < 5; i++) {
+            x.change(3 + i, number >>> (7 * i) & 127 | (i < 4 ? 128 : 0));
+        }
+        Checks.due("a cell alone is not as for the run", Checks.tellNow(x), 0);
+        for (int what = 0; what <= 9; what++) {
+            Checks.due("all states are alike: " + what, x.state(1, what), x.state(0, what));
+        }
+        Checks.due("the cell of the run", x.cell(0, 0), first);
+        Checks.due("the cell as told", x.cell(1, 0), other);
     }
 
     private static void tellingLeavesTheRun() {
