@@ -258,7 +258,6 @@ public final class RetoldRun {
             return waiting;
         }
 
-        @Override
         boolean takeInterrupt(int step) {
             if (!requested) {
                 return false;
@@ -268,7 +267,6 @@ public final class RetoldRun {
             return true;
         }
 
-        @Override
         int takeInput(int step) {
             if (waiting == 0) {
                 return 0;
@@ -281,7 +279,6 @@ public final class RetoldRun {
             return v;
         }
 
-        @Override
         int readClock(int step) {
             if (clock != timeBefore) {
                 journal.beginEntry(step, KIND_TIME);
@@ -314,12 +311,10 @@ public final class RetoldRun {
             reader.rewind();
         }
 
-        @Override
         boolean takeInterrupt(int step) {
             return hasEntry(step, KIND_INTERRUPT);
         }
 
-        @Override
         int takeInput(int step) {
             if (!hasEntry(step, KIND_IN)) {
                 return 0;
@@ -328,7 +323,6 @@ public final class RetoldRun {
             return (number & 1) == 0 ? number >>> 1 : -(number >>> 1) - 1;
         }
 
-        @Override
         int readClock(int step) {
             if (hasEntry(step, KIND_TIME)) {
                 timeBefore += reader.value;
