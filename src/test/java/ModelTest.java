@@ -33,7 +33,8 @@ public final class ModelTest {
     }
 
     private void play(int[] answers) {
-        int length = 40 + random.nextInt(472);
+        // A program and the last states still come after this many: the document promises 512 calls, not more.
+        int length = 40 + random.nextInt(430);
         while (calls < length) {
             if (!model.begun && random.nextInt(3) > 0) {
                 program();

@@ -3,13 +3,18 @@ public final class OperationsTest {
     public static void main(String[] args) {
         arithmetic();
         registersFromAbove();
+        registersFromAboveInEveryOperation();
+        setTakesAllOfB();
         cells();
+        cellsFromAbove();
+        inWithNoneWaiting();
         jumps();
         lots();
         outputs();
         interrupts();
         ends();
         trace();
+        traceOfAllRegisters();
         Checks.finish(OperationsTest.class);
     }
 
@@ -46,6 +51,73 @@ public final class OperationsTest {
         dueRegisters("b mod 4", x, 100, -1, 100, 9);
         x.run(1);
         dueRegisters("both are 3", x, 100, -1, 100, 0);
+    }
+
+    /** No two registers hold the same before the instruction comes, and one of them is 0, for ZERO. */
+    private static int[] seenAfter(int operation, int a, int b) {
+        RetoldRun x = Checks.with(6, 0, 0, 11, 0, 1, 22, 0, 2, 3, 0, 3, 0, 4, 1, 0, 4, 2, 1, 4, 1, 2, 4, 0, 3,
+            operation, a, b, 0, 0, 0);
+        x.input(71);
+        x.pass(72);
+        Checks.due("nine steps", x.run(9), 9);
+        return Checks.seenOf(x);
+    }
+
+    private static void registersFromAboveInEveryOperation() {
+        int[] numbers = {-1, -2, -3, -4, -5, 4, 5, 7, Integer.MIN_VALUE, Integer.MIN_VALUE + 1, Integer.MAX_VALUE};
+        for (int operation = 0; operation <= 12; operation++) {
+            for (int number : numbers) {
+                int register = (number % 4 + 4) % 4;
+                Checks.dueSame("operation " + operation + " with a " + number,
+                    seenAfter(operation, number, 2), seenAfter(operation, register, 2));
+                if (operation != 0 && operation != 5 && operation != 6) {
+                    Checks.dueSame("operation " + operation + " with b " + number,
+                        seenAfter(operation, 2, number), seenAfter(operation, 2, register));
+                }
+            }
+        }
+    }
+
+    private static void setTakesAllOfB() {
+        for (int b : new int[] {-1, 3, 4, 5, 32, Integer.MIN_VALUE, Integer.MAX_VALUE}) {
+            Checks.due("SET to " + b, seenAfter(0, 1, b)[1], b);
+        }
+    }
+
+    private static void cellsFromAbove() {
+        for (int number : new int[] {0, 1, 30, 31, 32, 33, 63, 64, -1, -2, -31, -32, -33, -64, -65,
+                Integer.MAX_VALUE, Integer.MIN_VALUE, Integer.MIN_VALUE + 1}) {
+            RetoldRun x = Checks.with(0, 0, 0, 77, 0, 1, number, 4, 0, 1, 3, 2, 1);
+            x.run(4);
+            int cell = (number % 32 + 32) % 32;
+            for (int i = 0; i < 32; i++) {
+                Checks.due("PUT by " + number + ": cell " + i, x.cell(0, i), i == cell ? 77 : 0);
+            }
+            Checks.due("GET by " + number, x.state(0, 2), 77);
+            RetoldRun y = Checks.with(0, 0, 0, 77, 0, 1, cell, 4, 0, 1, 0, 1, number, 3, 2, 1);
+            y.run(5);
+            Checks.due("GET by " + number + " from cell " + cell, y.state(0, 2), 77);
+        }
+    }
+
+    private static void inWithNoneWaiting() {
+        RetoldRun x = Checks.with(0, 0, 2, 5, 7, 2, 0, 7, 2, 0);
+        x.run(1);
+        Checks.due("before", x.state(0, 2), 5);
+        x.run(1);
+        Checks.due("0 if none waits", x.state(0, 2), 0);
+        x.input(6);
+        x.run(1);
+        Checks.due("the one that waits", x.state(0, 2), 6);
+        Checks.dueLog("one entry, of the second IN", x, 13, 12);
+        RetoldRun y = Checks.with(0, 7, 0, 0, 7, 1, 0, 0, 2, 5, 7, 2, 0);
+        y.input(8);
+        y.input(9);
+        y.run(4);
+        Checks.due("the first of two", y.state(0, 0), 8);
+        Checks.due("the second of two", y.state(0, 1), 9);
+        Checks.due("no third", y.state(0, 2), 0);
+        Checks.due("entries", y.entries(), 2);
     }
 
     private static void cells() {
@@ -187,37 +259,42 @@ public final class OperationsTest {
         Checks.due("at 20", w.state(0, 4), 20);
     }
 
-    private static int traced(int trace, int... xs) {
-        int h = trace;
-        for (int x : xs) {
-            h = (h ^ x) * 16777619;
-        }
-        return h;
-    }
-
     private static void trace() {
         RetoldRun x = Checks.with(0, 0, 0, 5, 0, 1, 6, 10, 1, 0);
         int h = 0;
         x.run(1);
-        h = traced(h, 1, 5, 0, 0, 0, 0);
+        h = Checks.traced(h, 1, 5, 0, 0, 0, 0);
         Checks.due("trace 1", x.state(0, 6), h);
         x.run(1);
-        h = traced(h, 2, 5, 6, 0, 0, 0);
+        h = Checks.traced(h, 2, 5, 6, 0, 0, 0);
         Checks.due("trace 2", x.state(0, 6), h);
         x.run(1);
-        h = traced(h, 3, 5, 6, 0, 0, 6 * 16777619);
+        h = Checks.traced(h, 3, 5, 6, 0, 0, 6 * 16777619);
         Checks.due("trace 3", x.state(0, 6), h);
         x.run(1);
-        h = traced(h, 3, 5, 6, 0, 0, 6 * 16777619);
+        h = Checks.traced(h, 3, 5, 6, 0, 0, 6 * 16777619);
         Checks.due("trace of the step without an instruction", x.state(0, 6), h);
         x.run(1);
         Checks.due("no step, no trace", x.state(0, 6), h);
         RetoldRun y = padded(11, 0, 0);
         y.request();
         y.run(1);
-        Checks.due("trace of an interrupt", y.state(0, 6), traced(0, 16, 0, 0, 0, 0, 0));
+        Checks.due("trace of an interrupt", y.state(0, 6), Checks.traced(0, 16, 0, 0, 0, 0, 0));
         RetoldRun z = Checks.with(0, 12, 0, 0);
         z.run(1);
-        Checks.due("trace of END", z.state(0, 6), traced(0, 1, 0, 0, 0, 0, 0));
+        Checks.due("trace of END", z.state(0, 6), Checks.traced(0, 1, 0, 0, 0, 0, 0));
+    }
+
+    private static void traceOfAllRegisters() {
+        RetoldRun x = Checks.with(0, 0, 0, 3, 0, 1, -5, 0, 2, 7, 0, 3, -9, 10, 0, 0, 5, 0, 0);
+        Checks.due("0 at first", x.state(0, 6), 0);
+        x.run(6);
+        int h = Checks.traced(0, 1, 3, 0, 0, 0, 0);
+        h = Checks.traced(h, 2, 3, -5, 0, 0, 0);
+        h = Checks.traced(h, 3, 3, -5, 7, 0, 0);
+        h = Checks.traced(h, 4, 3, -5, 7, -9, 0);
+        h = Checks.traced(h, 5, 3, -5, 7, -9, 3 * 16777619);
+        h = Checks.traced(h, 0, 3, -5, 7, -9, 3 * 16777619);
+        Checks.due("place, registers 0 to 3, output", x.state(0, 6), h);
     }
 }

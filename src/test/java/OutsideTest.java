@@ -3,8 +3,10 @@ public final class OutsideTest {
     public static void main(String[] args) {
         inputsWaitInOrder();
         sixteenInputs();
+        roomForAsManyAsWereTaken();
         requests();
         requestWaits();
+        requestAfterTheEnd();
         clock();
         refusedPasses();
         Checks.finish(OutsideTest.class);
@@ -45,6 +47,32 @@ public final class OutsideTest {
         x.run(1);
         Checks.due("no more", x.state(0, 0), 0);
         Checks.due("entries", x.entries(), 17);
+    }
+
+    private static void roomForAsManyAsWereTaken() {
+        RetoldRun x = Checks.with(0, 7, 0, 0, 5, 0, 0);
+        for (int i = 1; i <= 16; i++) {
+            x.input(i);
+        }
+        x.run(5);
+        Checks.due("three were taken", x.state(0, 0), 3);
+        Checks.due("the first of three", x.input(17), 14);
+        Checks.due("the second", x.input(18), 15);
+        Checks.due("the third", x.input(19), 16);
+        Checks.due("no fourth", x.input(20), -1);
+        x.run(33);
+        Checks.due("all came, the last one last", x.state(0, 0), 19);
+        Checks.due("19 entries", x.entries(), 19);
+        x.run(2);
+        Checks.due("the refused one never", x.state(0, 0), 0);
+    }
+
+    private static void requestAfterTheEnd() {
+        RetoldRun x = Checks.with(0, 12, 0, 0);
+        x.run(1);
+        Checks.due("a request after the end", x.request(), true);
+        x.run(1);
+        Checks.due("is there for good", x.request(), false);
     }
 
     private static RetoldRun withHandler(int handler) {

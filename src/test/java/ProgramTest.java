@@ -4,8 +4,17 @@ public final class ProgramTest {
         newObjects();
         numbers();
         refusedInstructions();
+        operationsAtTheEdges();
+        targetsAtTheEdges();
+        targetsOfJumpAndZeroAlone();
         addAfterRun();
+        addAfterARunThatEnded();
+        addAfterARunOfOneInterrupt();
         clearAll();
+        clearCounts();
+        clearBeforeAnyRun();
+        clearAfterTheEnd();
+        clearOfAFullLog();
         clearKeepsWhatWasTold();
         Checks.finish(ProgramTest.class);
     }
@@ -74,6 +83,58 @@ public final class ProgramTest {
         Checks.due("refused ones left nothing", x.clear(), next + 1);
     }
 
+    private static void operationsAtTheEdges() {
+        RetoldRun x = new RetoldRun(0);
+        Checks.due("below the first", x.add(-1, 0, 0), -1);
+        Checks.due("the first", x.add(0, 0, 0), 0);
+        Checks.due("the last", x.add(12, 0, 0), 1);
+        Checks.due("beyond the last", x.add(13, 0, 0), -1);
+        Checks.due("two were there", x.clear(), 2);
+    }
+
+    private static void targetsAtTheEdges() {
+        for (int operation = 5; operation <= 6; operation++) {
+            RetoldRun x = new RetoldRun(0);
+            Checks.due(operation + " to -1", x.add(operation, 0, -1), -1);
+            Checks.due(operation + " to 0", x.add(operation, 0, 0), 0);
+            Checks.due(operation + " to 23", x.add(operation, 0, 23), 1);
+            Checks.due(operation + " to 24", x.add(operation, 0, 24), -1);
+            Checks.due("two were there", x.clear(), 2);
+        }
+    }
+
+    private static void targetsOfJumpAndZeroAlone() {
+        for (int operation = 0; operation <= 12; operation++) {
+            boolean jumps = operation == 5 || operation == 6;
+            for (int b : new int[] {-1, 24, Integer.MIN_VALUE, Integer.MAX_VALUE}) {
+                Checks.due(operation + " with b " + b, new RetoldRun(0).add(operation, 0, b), jumps ? -1 : 0);
+                Checks.due(operation + " with a " + b, new RetoldRun(0).add(operation, b, 0), 0);
+            }
+        }
+    }
+
+    private static void addAfterARunThatEnded() {
+        RetoldRun x = Checks.with(0, 12, 0, 0);
+        Checks.due("run to the end", x.run(100), 1);
+        Checks.due("add after the end", x.add(0, 0, 0), -1);
+        Checks.due("run after the end", x.run(100), 0);
+        Checks.due("add still refused", x.add(0, 0, 0), -1);
+        Checks.due("one was there", x.clear(), 1);
+        Checks.due("add after clear", x.add(0, 0, 0), 0);
+        Checks.due("and one more", x.add(0, 0, 0), 1);
+    }
+
+    private static void addAfterARunOfOneInterrupt() {
+        RetoldRun x = new RetoldRun(0);
+        for (int i = 0; i < 17; i++) {
+            x.add(11, 0, 0);
+        }
+        x.request();
+        Checks.due("outside alone begins no run", x.add(11, 0, 0), 17);
+        Checks.due("an interrupt", x.run(1), 1);
+        Checks.due("a run has begun", x.add(11, 0, 0), -1);
+    }
+
     private static void addAfterRun() {
         RetoldRun x = new RetoldRun(0);
         Checks.due("a refused run", x.run(0), -1);
@@ -130,6 +191,70 @@ public final class ProgramTest {
         x.pass(7);
         x.run(1);
         Checks.dueLog("steps and times count from the start", x, 6, 7);
+    }
+
+    private static void clearCounts() {
+        for (int n : new int[] {0, 1, 23, 24}) {
+            RetoldRun x = new RetoldRun(0);
+            for (int i = 0; i < n; i++) {
+                x.add(0, 0, 0);
+            }
+            Checks.due("instructions", x.clear(), n);
+            Checks.due("and none after it", x.clear(), 0);
+            Checks.due("the row begins at 0", x.add(0, 0, 0), 0);
+        }
+    }
+
+    private static void clearBeforeAnyRun() {
+        RetoldRun x = Checks.with(4, 7, 0, 0);
+        x.input(1);
+        x.pass(9);
+        x.request();
+        Checks.due("one instruction", x.clear(), 1);
+        dueAsAtFirst("cleared before a run", x);
+        Checks.due("no request is there", x.request(), true);
+        for (int i = 1; i <= 16; i++) {
+            Checks.due("there is room for input " + i, x.input(i), i);
+        }
+        Checks.due("and no more", x.input(17), -1);
+    }
+
+    private static void clearAfterTheEnd() {
+        RetoldRun x = Checks.with(4, 12, 0, 0);
+        x.run(1);
+        x.clear();
+        dueAsAtFirst("cleared after the end", x);
+        x.add(0, 0, 8);
+        Checks.due("it has not ended", x.run(1), 1);
+        Checks.due("register", x.state(0, 0), 8);
+        RetoldRun y = busy();
+        Checks.due("inside", y.state(0, 7), 1);
+        y.clear();
+        for (int i = 0; i < 17; i++) {
+            y.add(11, 0, 0);
+        }
+        y.request();
+        y.run(1);
+        Checks.due("it was not inside", y.state(0, 4), 16);
+        y.run(1);
+        Checks.due("back", y.state(0, 4), 0);
+    }
+
+    private static void clearOfAFullLog() {
+        RetoldRun x = Checks.with(0, 7, 0, 0, 5, 0, 0);
+        for (int i = 0; i < 49; i++) {
+            x.input(Integer.MIN_VALUE);
+            x.run(2);
+        }
+        Checks.due("full", x.run(1), 0);
+        x.change(0, 77);
+        x.clear();
+        dueAsAtFirst("cleared when full", x);
+        x.add(7, 0, 0);
+        x.input(3);
+        Checks.due("there is room", x.run(1), 1);
+        Checks.dueLog("as for a new object", x, 5, 6);
+        Checks.due("the seal too", x.seal(), Checks.sealOf(5, 6));
     }
 
     private static void clearKeepsWhatWasTold() {

@@ -6,6 +6,10 @@ public final class RunTest {
         noProgram();
         fullLog();
         exactly290();
+        fullLogBeforeTheEnd();
+        fullLogAndARequest();
+        longestLog();
+        hundredStepsAtMost();
         Checks.finish(RunTest.class);
     }
 
@@ -77,6 +81,83 @@ public final class RunTest {
         x.clear();
         x.add(5, 0, 0);
         Checks.due("after clear there is room", x.run(100), 100);
+    }
+
+    /** A log of 290 bytes after 98 steps, the last entry being of step 97, and a RETURN at 16. */
+    private static RetoldRun filled() {
+        RetoldRun x = Checks.with(0, 7, 0, 0, 5, 0, 0);
+        for (int i = 2; i < 17; i++) {
+            x.add(11, 0, 0);
+        }
+        for (int i = 0; i < 48; i++) {
+            x.input(Integer.MIN_VALUE);
+            x.run(2);
+        }
+        x.input(1);
+        x.run(2);
+        Checks.due("290", x.log(), 290);
+        return x;
+    }
+
+    /** The second IN ends the loop in the step that fills the log, so that ZERO and END would be next. */
+    private static void fullLogBeforeTheEnd() {
+        RetoldRun x = Checks.with(0, 7, 0, 0, 7, 1, 0, 6, 1, 0, 12, 0, 0);
+        for (int i = 0; i < 48; i++) {
+            x.input(Integer.MIN_VALUE);
+            x.run(3);
+        }
+        Checks.due("the second IN found none", x.state(0, 1), 0);
+        Checks.due("288", x.log(), 288);
+        x.input(0);
+        x.input(70000);
+        Checks.due("two entries, of two bytes and of four", x.run(100), 2);
+        Checks.due("294", x.log(), 294);
+        Checks.due("neither ZERO nor END is done", x.run(100), 0);
+        Checks.due("not ended", x.state(0, 8), 0);
+        Checks.due("place", x.state(0, 4), 2);
+    }
+
+    private static void fullLogAndARequest() {
+        RetoldRun x = filled();
+        x.request();
+        Checks.due("an interrupt at 290", x.run(1), 1);
+        Checks.due("291", x.log(), 291);
+        Checks.due("inside", x.state(0, 7), 1);
+        Checks.due("the request is gone", x.request(), true);
+        Checks.due("RETURN is not done at 291", x.run(1), 0);
+        Checks.due("still inside", x.state(0, 7), 1);
+        Checks.due("the request waits", x.request(), false);
+        Checks.due("told", Checks.tellNow(x), 1);
+    }
+
+    /** 290 bytes, and then an entry as long as 512 calls can make one: all of it is kept. */
+    private static void longestLog() {
+        RetoldRun x = filled();
+        for (int i = 0; i < 41; i++) {
+            Checks.due("a hundred steps without an entry", x.run(100), 100);
+        }
+        x.input(Integer.MIN_VALUE);
+        Checks.due("one step", x.run(100), 1);
+        Checks.due("298", x.log(), 298);
+        int[] tail = {153, 128, 1, 255, 255, 255, 255, 15};
+        for (int i = 0; i < tail.length; i++) {
+            Checks.due("at " + (290 + i), x.at(290 + i), tail[i]);
+        }
+        Checks.due("none behind it", x.at(298), -1);
+        Checks.due("the last byte can be changed", x.change(297, 15), true);
+        Checks.due("none behind it can", x.change(298, 0), false);
+        Checks.due("told", x.tell(x.seal(), 298), 1);
+        Checks.due("told register", x.state(1, 0), Integer.MIN_VALUE);
+    }
+
+    private static void hundredStepsAtMost() {
+        RetoldRun x = Checks.with(0, 5, 0, 0);
+        Checks.due("run(0)", x.run(0), -1);
+        Checks.due("run(1)", x.run(1), 1);
+        Checks.due("run(99)", x.run(99), 99);
+        Checks.due("run(100)", x.run(100), 100);
+        Checks.due("run(101)", x.run(101), -1);
+        Checks.due("200 steps", x.state(0, 9), 200);
     }
 
     private static void exactly290() {

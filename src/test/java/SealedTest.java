@@ -4,6 +4,7 @@ public final class SealedTest {
         RetoldRun x = new RetoldRun(0);
         known(x);
         refused(x);
+        edges(x);
         chained(x);
         Checks.finish(SealedTest.class);
     }
@@ -23,6 +24,29 @@ public final class SealedTest {
         for (int n : new int[] {0, 5, -1, 32, Integer.MAX_VALUE, Integer.MIN_VALUE}) {
             Checks.due("n is " + n, x.sealed(1, 77, n), 0);
         }
+    }
+
+    private static int sealAfter(int h, int word, int n) {
+        int seal = h;
+        for (int i = n - 1; i >= 0; i--) {
+            seal = (seal ^ (word >>> 8 * i & 255)) * 16777619;
+            seal = seal ^ seal >>> 13;
+        }
+        return seal;
+    }
+
+    private static void edges(RetoldRun x) {
+        for (int h : new int[] {0, 1, -1, 12345, Integer.MIN_VALUE, Integer.MAX_VALUE}) {
+            for (int word : new int[] {0, 1, -1, 0x80000000, 0x01020304, Integer.MAX_VALUE}) {
+                Checks.due("no byte", x.sealed(h, word, 0), 0);
+                for (int n = 1; n <= 4; n++) {
+                    Checks.due(n + " bytes of " + word + " after " + h, x.sealed(h, word, n), sealAfter(h, word, n));
+                }
+                Checks.due("five bytes", x.sealed(h, word, 5), 0);
+            }
+        }
+        Checks.due("higher bytes are left aside", x.sealed(1, 0x12345678, 2), x.sealed(1, 0x5678, 2));
+        Checks.due("0 and one byte of 0", x.sealed(0, -256, 1), 0);
     }
 
     private static void chained(RetoldRun x) {

@@ -8,6 +8,7 @@ public final class StateTest {
         dueNothingElse(x);
         dueTold(x);
         dueNothingElse(x);
+        allZeroIfTellingWasRefused();
         Checks.finish(StateTest.class);
     }
 
@@ -63,6 +64,25 @@ public final class StateTest {
         }
         Checks.due("state 2 0", x.state(2, 0), 0);
         Checks.due("cell 2 0", x.cell(2, 0), 0);
+    }
+
+    private static void allZeroIfTellingWasRefused() {
+        RetoldRun x = Checks.with(0, 7, 0, 0, 4, 0, 1, 10, 0, 0);
+        x.input(7);
+        x.run(3);
+        Checks.due("another seal", x.tell(0, 2), -1);
+        x.change(0, 4);
+        Checks.due("not readable", Checks.tellNow(x), -2);
+        for (int what = 0; what <= 9; what++) {
+            Checks.due("nothing was told: state 1 " + what, x.state(1, what), 0);
+        }
+        for (int i = 0; i < 32; i++) {
+            Checks.due("nothing was told: cell 1 " + i, x.cell(1, i), 0);
+        }
+        x.change(0, 5);
+        Checks.due("told", Checks.tellNow(x), 1);
+        Checks.due("now something was", x.state(1, 0), 7);
+        Checks.due("and its cell", x.cell(1, 0), 7);
     }
 
     private static void dueTold(RetoldRun x) {

@@ -4,7 +4,14 @@ public final class TellTest {
         toldAlike();
         refusedSeals();
         refusedChangesNothing();
-        unreadable();
+        numberNotWhole();
+        numberOfMoreThanFiveBytes();
+        bitsBeyondThe32nd();
+        entryNotWhole();
+        kindOfZero();
+        distanceOfZero();
+        unreadableAnywhere();
+        noLogIsReadable();
         readableAgain();
         sealComesFirst();
         otherInputs();
@@ -13,13 +20,18 @@ public final class TellTest {
         stepsDoNotWrap();
         entryOfNoUse();
         wrongKinds();
+        inWithoutAnEntry();
+        timeWithoutAnEntry();
+        timeEntryOfNoUse();
+        sameSeed();
+        asManyStepsAsInTheRun();
+        eachAnswer();
         timesAddUp();
         interruptsAsTheLogHasThem();
         interruptsOfNoUse();
         toldEndsEarlier();
         toldEndsLater();
         cellsCount();
-        cellsAlone();
         tellingLeavesTheRun();
         Checks.finish(TellTest.class);
     }
@@ -64,9 +76,9 @@ public final class TellTest {
             for (int what = 0; what <= 9; what++) {
                 Checks.due("state " + what, x.state(1, what), x.state(0, what));
             }
-            for (int c = 0; c < 32; c++) {
-                Checks.due("cell " + c, x.cell(1, c), x.cell(0, c));
-            }
+        }
+        for (int c = 0; c < 32; c++) {
+            Checks.due("cell " + c, x.cell(1, c), x.cell(0, c));
         }
         Checks.due("there was something to tell", x.entries() > 20, true);
         int steps = x.state(0, 9);
@@ -104,38 +116,110 @@ public final class TellTest {
         Checks.due("the run stays", x.state(0, 9), 4);
     }
 
-    private static void dueUnreadable(String why, int... bytes) {
-        RetoldRun x = looped(2, Integer.MIN_VALUE);
-        Checks.due("six bytes", x.log(), 6);
-        int[] whole = {7, 7, 7, 7, 7, 7};
-        System.arraycopy(bytes, 0, whole, 6 - bytes.length, bytes.length);
+    /** A log of twelve bytes from outside: one interrupt after another, which can be read, and at its end these. */
+    private static int toldWith(int... bytes) {
+        RetoldRun x = looped(4, Integer.MIN_VALUE, Integer.MIN_VALUE);
+        int[] whole = {7, 7, 7, 7, 7, 7, 7, 7, 7, 7, 7, 7};
+        System.arraycopy(bytes, 0, whole, 12 - bytes.length, bytes.length);
         Checks.write(x, whole);
-        Checks.due(why, Checks.tellNow(x), -2);
-        Checks.due(why + ": nothing told", x.state(1, 9), 0);
+        Checks.due("twelve bytes", x.log(), 12);
+        int answer = Checks.tellNow(x);
+        Checks.due("steps, if it was told", x.state(1, 9), answer < 0 ? 0 : 4);
+        return answer;
     }
 
-    private static void unreadable() {
-        dueUnreadable("the last number is not whole", 135);
-        dueUnreadable("the value is not whole", 5, 128);
-        dueUnreadable("the value is missing after IN", 5);
-        dueUnreadable("the value is missing after TIME", 6);
-        dueUnreadable("kind 0", 4);
-        dueUnreadable("kind 0 in the middle", 4, 7, 7);
-        dueUnreadable("all is 0", 0);
+    private static void dueReadable(String what, int... bytes) {
+        Checks.due(what, toldWith(bytes), 0);
+    }
+
+    private static void dueUnreadable(String what, int... bytes) {
+        Checks.due(what, toldWith(bytes), -2);
+    }
+
+    private static void numberNotWhole() {
+        dueReadable("the last byte of a head ends it", 135, 0);
+        dueUnreadable("the last byte of a head goes on", 135);
+        dueUnreadable("the second byte goes on", 135, 128);
+        dueUnreadable("the fourth byte goes on", 135, 128, 128, 128);
+        dueUnreadable("a head with all bits on", 255);
+        dueReadable("the last byte of a value ends it", 5, 127);
+        dueUnreadable("the last byte of a value goes on", 5, 128);
+        dueUnreadable("the last byte of a time goes on", 6, 255);
+        dueReadable("two bytes of a value", 6, 255, 0);
+        dueUnreadable("two bytes of a value, and it goes on", 6, 255, 128);
+    }
+
+    private static void numberOfMoreThanFiveBytes() {
+        dueReadable("a head of five bytes", 135, 128, 128, 128, 0);
+        dueUnreadable("a head of six bytes", 135, 128, 128, 128, 128, 0);
+        dueUnreadable("a head of seven bytes", 135, 128, 128, 128, 128, 128, 0);
+        dueReadable("an input of five bytes", 5, 255, 255, 255, 255, 15);
+        dueUnreadable("an input of six bytes", 5, 255, 255, 255, 255, 143, 0);
+        dueReadable("a time of five bytes", 6, 128, 128, 128, 128, 0);
+        dueUnreadable("a time of six bytes", 6, 128, 128, 128, 128, 128, 0);
+        dueUnreadable("a head of six bytes, the last like a head", 135, 128, 128, 128, 128, 7);
+        dueUnreadable("an input of six bytes, the last like a head", 5, 128, 128, 128, 128, 128, 7);
+        dueUnreadable("a time of six bytes, the last like a head", 6, 128, 128, 128, 128, 128, 7);
+        dueUnreadable("six bytes and more behind them", 135, 128, 128, 128, 128, 7, 7, 7);
+        dueUnreadable("five bytes, the last going on", 135, 128, 128, 128, 128);
+    }
+
+    private static void bitsBeyondThe32nd() {
+        dueReadable("a head with bits beyond the 32nd", 135, 128, 128, 128, 127);
+        dueReadable("an input with bits beyond the 32nd", 5, 255, 255, 255, 255, 127);
+        dueReadable("a head of the 32nd bit and its kind", 131, 128, 128, 128, 8);
+        dueUnreadable("a head of a kind and bits beyond alone", 131, 128, 128, 128, 16);
+        dueUnreadable("all bits beyond", 131, 128, 128, 128, 112);
+        dueUnreadable("no kind, bits beyond", 132, 128, 128, 128, 112);
+    }
+
+    private static void entryNotWhole() {
+        dueReadable("an interrupt needs no value", 7);
+        dueReadable("an IN with its value", 5, 0);
+        dueUnreadable("an IN without its value", 5);
+        dueReadable("a TIME with its value", 6, 0);
+        dueUnreadable("a TIME without its value", 6);
+        dueUnreadable("a long head without its value", 133, 1);
+        dueReadable("a long head with its value", 133, 1, 0);
+    }
+
+    private static void kindOfZero() {
+        dueReadable("4 * 1 + 1", 5, 7);
+        dueReadable("4 * 1 + 2", 6, 7);
+        dueReadable("4 * 1 + 3", 7, 7);
+        dueUnreadable("4 * 1 + 0", 4, 7);
+        dueUnreadable("4 * 31 + 0", 124, 7);
+        dueUnreadable("4 * 32 + 0", 128, 1);
+        dueUnreadable("at the end", 4);
+    }
+
+    private static void distanceOfZero() {
+        dueReadable("d is 1 for IN", 5, 0);
         dueUnreadable("d is 0 for IN", 1, 0);
+        dueReadable("d is 1 for TIME", 6, 0);
         dueUnreadable("d is 0 for TIME", 2, 0);
+        dueReadable("d is 1 for an interrupt", 7);
         dueUnreadable("d is 0 for an interrupt", 3);
-        dueUnreadable("d is 0 in the first entry", 3, 7, 7, 7, 7, 7);
-        dueUnreadable("a number of six bytes", 135, 128, 128, 128, 128, 0);
-        dueUnreadable("a value of more than 5 bytes", 5, 255, 255, 255, 255, 143);
-        dueUnreadable("d is 0 once its bits are dropped", 131, 128, 128, 128, 112);
-        RetoldRun x = looped(2, Integer.MIN_VALUE);
-        Checks.write(x, 7, 7, 7, 7, 7, 7);
-        Checks.due("six interrupts can be read", Checks.tellNow(x), 0);
-        Checks.write(x, 7, 135, 128, 128, 128, 0);
-        Checks.due("a number of five bytes can be read", Checks.tellNow(x), 0);
-        Checks.write(x, 7, 7, 7, 7, 5, 0);
-        Checks.due("an entry with its value can be read", Checks.tellNow(x), 0);
+        dueUnreadable("d is 0 in two bytes", 131, 0);
+        dueUnreadable("d and kind are 0", 0);
+    }
+
+    private static void unreadableAnywhere() {
+        dueReadable("all can be read", 7, 7, 7, 7, 7, 7, 7, 7, 7, 7, 7, 7);
+        dueUnreadable("the first entry", 3, 7, 7, 7, 7, 7, 7, 7, 7, 7, 7, 7);
+        dueUnreadable("the second entry", 7, 4, 7, 7, 7, 7, 7, 7, 7, 7, 7, 7);
+        dueUnreadable("an entry of a step that was done", 7, 7, 7, 3, 7, 7, 7, 7, 7, 7, 7, 7);
+        dueUnreadable("an entry of a step that never was", 7, 7, 7, 7, 7, 7, 3, 7, 7, 7, 7, 7);
+        dueUnreadable("the last entry", 7, 7, 7, 7, 7, 7, 7, 7, 7, 7, 7, 3);
+    }
+
+    private static void noLogIsReadable() {
+        RetoldRun x = looped(3);
+        Checks.due("no byte", x.log(), 0);
+        Checks.due("the seal of none", x.tell(1, 0), 1);
+        Checks.due("told", x.state(1, 9), 3);
+        Checks.due("another seal", x.tell(0, 0), -1);
+        Checks.due("one byte", x.tell(1, 1), -1);
     }
 
     private static void readableAgain() {
@@ -234,6 +318,97 @@ public final class TellTest {
         y.change(0, 10);
         dueTold("a time for the second TIME", y, 0, 0, 0);
         Checks.due("the second TIME", y.state(1, 1), 7);
+    }
+
+    private static void inWithoutAnEntry() {
+        RetoldRun x = Checks.with(0, 7, 0, 0, 7, 1, 0, 7, 2, 0);
+        x.input(1);
+        x.input(2);
+        x.input(3);
+        x.run(3);
+        Checks.dueLog("three inputs", x, 5, 2, 5, 4, 5, 6);
+        Checks.write(x, 9, 2, 6, 4, 7, 7);
+        dueTold("an entry of step 2, a time and two interrupts", x, 0, 1, 1);
+        Checks.due("no entry for the first: 0", x.state(1, 0), 0);
+        Checks.due("an entry of another kind for the third: 0", x.state(1, 2), 0);
+        x.input(99);
+        Checks.due("told", Checks.tellNow(x), 0);
+        Checks.due("an input that waits is left aside", x.state(1, 2), 0);
+    }
+
+    private static void timeWithoutAnEntry() {
+        RetoldRun x = Checks.with(0, 8, 0, 0, 8, 1, 0, 8, 2, 0, 8, 3, 0);
+        x.pass(5);
+        x.run(1);
+        x.pass(6);
+        x.run(2);
+        x.pass(7);
+        x.run(1);
+        Checks.dueLog("three times", x, 6, 5, 6, 6, 10, 7);
+        dueTold("the third TIME gives what the second gave", x, 1, 2, 11);
+        Checks.write(x, 10, 5, 5, 6, 6, 7);
+        dueTold("no entry for the first: 0", x, 0, 0, 0);
+        Checks.due("the second", x.state(1, 1), 5);
+        Checks.due("an entry of another kind for the third: what the second gave", x.state(1, 2), 5);
+        Checks.due("the fourth", x.state(1, 3), 12);
+        x.pass(1000);
+        Checks.due("told", Checks.tellNow(x), 0);
+        Checks.due("the clock is left aside", x.state(1, 0), 0);
+    }
+
+    private static void timeEntryOfNoUse() {
+        RetoldRun x = Checks.with(0, 8, 0, 0, 0, 3, 1, 8, 1, 0);
+        x.pass(5);
+        x.run(2);
+        x.pass(6);
+        x.run(1);
+        Checks.dueLog("steps 1 and 3", x, 6, 5, 10, 6);
+        x.change(2, 6);
+        dueTold("for the SET of step 2 it does nothing", x, 0, 1, 5);
+        Checks.due("the SET is done", x.state(1, 3), 1);
+        x.change(2, 14);
+        dueTold("for step 4, which is not done, it does nothing", x, 0, 1, 5);
+        x.change(2, 10);
+        dueTold("for step 3 it does", x, 1, 1, 11);
+    }
+
+    private static void sameSeed() {
+        for (int seed : new int[] {0, 1, -1, Integer.MAX_VALUE, Integer.MIN_VALUE}) {
+            RetoldRun x = Checks.with(seed, 9, 0, 0, 9, 1, 0, 9, 2, 0);
+            x.run(2);
+            Checks.due("told with seed " + seed, x.tell(1, 0), 1);
+            Checks.due("the first lot", x.state(1, 0), seed * 1103515245 + 12345 >>> 16);
+            x.run(1);
+            Checks.due("told anew with seed " + seed, x.tell(1, 0), 1);
+            Checks.due("the third lot is the run's own", x.state(1, 2), x.state(0, 2));
+        }
+    }
+
+    private static void asManyStepsAsInTheRun() {
+        RetoldRun x = Checks.with(0, 5, 0, 0);
+        Checks.due("before the run", x.tell(1, 0), 1);
+        Checks.due("no step", x.state(1, 9), 0);
+        x.run(1);
+        Checks.due("told", x.tell(1, 0), 1);
+        Checks.due("one step", x.state(1, 9), 1);
+        for (int i = 0; i < 10; i++) {
+            x.run(100);
+        }
+        Checks.due("what was told is as it was told", x.state(1, 9), 1);
+        Checks.due("told", x.tell(1, 0), 1);
+        Checks.due("steps", x.state(1, 9), 1001);
+    }
+
+    private static void eachAnswer() {
+        RetoldRun x = looped(2, 7);
+        Checks.due("as for the run", x.tell(Checks.sealOf(5, 14), 2), 1);
+        x.change(1, 16);
+        Checks.due("not as for the run", x.tell(Checks.sealOf(5, 16), 2), 0);
+        Checks.due("not this seal", x.tell(Checks.sealOf(5, 14), 2), -1);
+        Checks.due("not as many", x.tell(Checks.sealOf(5, 16), 3), -1);
+        x.change(0, 3);
+        Checks.due("not readable", x.tell(Checks.sealOf(3, 16), 2), -2);
+        Checks.due("what was told last", x.state(1, 0), 8);
     }
 
     private static void timesAddUp() {
@@ -338,40 +513,6 @@ public final class TellTest {
         Checks.due("told anew", Checks.tellNow(x), 0);
         Checks.due("cells are 0 at first again", x.cell(1, 9), 0);
         Checks.due("the other cell", x.cell(1, 10), 10);
-    }
-
-    private static int traced(int trace, int place, int register) {
-        int h = ((trace ^ place) * 16777619 ^ register) * 16777619;
-        for (int i = 0; i < 4; i++) {
-            h *= 16777619;
-        }
-        return h;
-    }
-
-    /** The trace is brought together again by a second input, so that a cell alone tells the two runs apart. */
-    private static void cellsAlone() {
-        int first = 1;
-        int second = Integer.MIN_VALUE;
-        RetoldRun x = Checks.with(0, 7, 0, 0, 4, 0, 1, 7, 0, 0, 0, 0, 5);
-        x.input(first);
-        x.input(second);
-        x.run(4);
-        Checks.due("one byte and five", x.log(), 8);
-        int other = 2;
-        int mixed = (traced(traced(0, 1, first), 2, first) ^ 3) * 16777619;
-        int otherMixed = (traced(traced(0, 1, other), 2, other) ^ 3) * 16777619;
-        int otherSecond = second ^ mixed ^ otherMixed;
-        int number = otherSecond >= 0 ? 2 * otherSecond : -2 * otherSecond - 1;
-        x.change(1, 2 * other);
-        for (int i = 0; i < 5; i++) {
-            x.change(3 + i, number >>> (7 * i) & 127 | (i < 4 ? 128 : 0));
-        }
-        Checks.due("a cell alone is not as for the run", Checks.tellNow(x), 0);
-        for (int what = 0; what <= 9; what++) {
-            Checks.due("all states are alike: " + what, x.state(1, what), x.state(0, what));
-        }
-        Checks.due("the cell of the run", x.cell(0, 0), first);
-        Checks.due("the cell as told", x.cell(1, 0), other);
     }
 
     private static void tellingLeavesTheRun() {

@@ -45,6 +45,41 @@ final class Checks {
         return bytes;
     }
 
+    /** All that can be asked of the object while nothing comes to it: some 90 calls and one for each byte. */
+    static int[] seenOf(RetoldRun x) {
+        int[] bytes = bytesOf(x);
+        int[] seen = new int[86 + bytes.length];
+        int n = 0;
+        for (int which = 0; which < 2; which++) {
+            for (int what = 0; what < 10; what++) {
+                seen[n++] = x.state(which, what);
+            }
+            for (int i = 0; i < 32; i++) {
+                seen[n++] = x.cell(which, i);
+            }
+        }
+        seen[n++] = x.entries();
+        seen[n++] = x.seal();
+        System.arraycopy(bytes, 0, seen, n, bytes.length);
+        return seen;
+    }
+
+    static void dueSame(String what, int[] got, int[] want) {
+        due(what + ": how many", got.length, want.length);
+        for (int i = 0; i < got.length && i < want.length; i++) {
+            due(what + ": number " + i, got[i], want[i]);
+        }
+    }
+
+    /** The trace after one step more, by the document's words. */
+    static int traced(int trace, int place, int r0, int r1, int r2, int r3, int output) {
+        int h = trace;
+        for (int x : new int[] {place, r0, r1, r2, r3, output}) {
+            h = (h ^ x) * 16777619;
+        }
+        return h;
+    }
+
     /** Tells with the seal and the length that the log has now. */
     static int tellNow(RetoldRun x) {
         int[] bytes = bytesOf(x);
