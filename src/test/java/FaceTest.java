@@ -48,6 +48,7 @@ public final class FaceTest {
         }
         for (Field f : c.getDeclaredFields()) {
             Checks.due(f + " is private", Modifier.isPrivate(f.getModifiers()), true);
+            dueNoStaticThatChanges(f);
         }
     }
 
@@ -67,9 +68,13 @@ public final class FaceTest {
             Checks.due(n + " is static and not public or protected",
                 Modifier.isStatic(m) && !Modifier.isPublic(m) && !Modifier.isProtected(m), true);
             for (Field f : n.getDeclaredFields()) {
-                Checks.due(f + " is no static that changes",
-                    Modifier.isStatic(f.getModifiers()) && !Modifier.isFinal(f.getModifiers()), false);
+                dueNoStaticThatChanges(f);
             }
         }
+    }
+
+    private static void dueNoStaticThatChanges(Field f) {
+        Checks.due(f + " is no static that changes",
+            Modifier.isStatic(f.getModifiers()) && !Modifier.isFinal(f.getModifiers()), false);
     }
 }

@@ -10,6 +10,7 @@ public final class RunTest {
         fullLogAndARequest();
         longestLog();
         hundredStepsAtMost();
+        fiveHundredAndTwelveCalls();
         Checks.finish(RunTest.class);
     }
 
@@ -158,6 +159,20 @@ public final class RunTest {
         Checks.due("run(100)", x.run(100), 100);
         Checks.due("run(101)", x.run(101), -1);
         Checks.due("200 steps", x.state(0, 9), 200);
+    }
+
+    /** The last of the 512 calls still answers: two of them add, 506 run, and one input is told of. */
+    private static void fiveHundredAndTwelveCalls() {
+        RetoldRun x = Checks.with(0, 7, 0, 0, 5, 0, 0);
+        for (int i = 0; i < 505; i++) {
+            Checks.due("call " + (3 + i), x.run(100), 100);
+        }
+        Checks.due("call 508", x.input(-2), 1);
+        Checks.due("call 509, of step 50501", x.run(100), 100);
+        int s = Checks.sealOf(149, 170, 12, 3);
+        Checks.due("call 510", x.seal(), s);
+        Checks.due("call 511", x.tell(s, 4), 1);
+        Checks.due("call 512", x.state(1, 9), 50600);
     }
 
     private static void exactly290() {
